@@ -54,6 +54,7 @@ public final class TurretViews {
     private static final int WORD_COUNT = 36;
     private static final int LONGEST_WORD = 7;
     private static final int LONGEST_NUMBER = 3;
+    private static final int MOST_TOLD = 999;
     private static final int SIGNS_BASE = 32;
     private static final int AHEAD_OF_A = 96;
 
@@ -72,6 +73,8 @@ public final class TurretViews {
     private static final int W_WALL = 21;
     private static final int W_UNWALL = 22;
     private static final int W_DAY = 23;
+    private static final int PERSONS_ACTS = 3;
+    private static final int PLAIN_ACTS = 4;
     private static final int W_OR = 24;
     private static final int W_AND = 25;
     private static final int W_NOT = 26;
@@ -1244,7 +1247,7 @@ public final class TurretViews {
         }
 
         private void readLine(Reader reader, Suburb told) {
-            int who = reader.isWordFrom(W_STORM, 4) ? NONE : reader.seePerson(told);
+            int who = reader.isWordFrom(W_STORM, PLAIN_ACTS) ? NONE : reader.seePerson(told);
             if (reader.fault == 0 && lines >= MOST_LINES) {
                 reader.fail(FAULT_MANY);
             }
@@ -1262,13 +1265,13 @@ public final class TurretViews {
         }
 
         private void readPlain(Reader reader, Suburb told, int line) {
-            acts[line] = W_STORM + reader.needWordFrom(W_STORM, 4);
+            acts[line] = W_STORM + reader.needWordFrom(W_STORM, PLAIN_ACTS);
             boolean ofTurret = acts[line] == W_WALL || acts[line] == W_UNWALL;
             firsts[line] = ofTurret ? reader.needTurret(told) : reader.needNumber(1, MOST_NUMBER);
         }
 
         private void readOfPerson(Reader reader, Suburb told, int line) {
-            acts[line] = W_CLIMBS + reader.needWordFrom(W_CLIMBS, 3);
+            acts[line] = W_CLIMBS + reader.needWordFrom(W_CLIMBS, PERSONS_ACTS);
             if (acts[line] == W_CLIMBS) {
                 seconds[line] = reader.needTurret(told);
             } else if (acts[line] == W_TELLS) {
@@ -1287,7 +1290,8 @@ public final class TurretViews {
                 case W_STORM: return ofSort(30, suburb.blow(first));
                 case W_WALL: return ofSort(40, suburb.close(first));
                 case W_UNWALL: return ofSort(50, suburb.open(first));
-                default: return ofSort(60, liveDays(suburb, first));
+                case W_DAY: return ofSort(60, liveDays(suburb, first));
+                default: return 0;
             }
         }
 
@@ -1385,7 +1389,7 @@ public final class TurretViews {
                 number = reader.needTurret(told);
             } else if (step >= W_VIEWS) {
                 sign = reader.needSign();
-                number = reader.needNumber(0, 999);
+                number = reader.needNumber(0, MOST_TOLD);
             }
             addStep(step, sign, number);
         }

@@ -9,6 +9,7 @@ public final class ActTests {
         days();
         undo();
         undoOfEach();
+        undoOfAChain();
         Check.end();
     }
 
@@ -106,6 +107,7 @@ public final class ActTests {
         Check.is("days(0)", x.days(0), -1);
         Check.is("days(61)", x.days(61), -1);
         Check.is("days(-1)", x.days(-1), -1);
+        vanes();
         for (int i = 1; i <= 6; i++) {
             Check.is("days(60)", x.days(60), 60);
             Check.is("now(0)", x.now(0), 60 * i);
@@ -121,6 +123,16 @@ public final class ActTests {
         Check.is("undo the climb", x.undo(), 7);
         Check.is("undo days(2)", x.undo(), 6);
         Check.is("then", x.now(0), 399);
+    }
+
+    private static void vanes() {
+        TurretViews x = Check.of("turret a slit duty 5 vane;turret b bow sea 5;turret c round tea 5 vane;turret d slit tea 5;"
+            + "turret e slit dogs 5 vane;turret f slit sea 5 vane;turret g slit sea 5;");
+        x.days(3);
+        int[] views = {3, 1, 2, 7, 6, 4, 1};
+        for (int t = 0; t < 7; t++) {
+            Check.is("the view of " + t, x.turret(t, 1), views[t]);
+        }
     }
 
     private static void undo() {
@@ -154,6 +166,39 @@ public final class ActTests {
         Check.is("undo of the climb", x.undo(), 1);
         Check.is("undo of days(1)", x.undo(), 0);
         Check.is("the first day", x.now(0), 0);
+    }
+
+    private static void chainAct(TurretViews x, int i) {
+        switch (i) {
+            case 0: x.climb(0, 0); break;
+            case 1: x.land(0); break;
+            case 2: x.tell(0, 2, 1); break;
+            case 3: x.storm(15); break;
+            case 4: x.wall(1); break;
+            case 5: x.unwall(1); break;
+            case 6: x.days(2); break;
+            case 7: x.drawn(9, 4); break;
+            default: Check.book(x, "storm 2;day 3;", 1); break;
+        }
+    }
+
+    /** Each act is undone to just what was so ahead of it, whatever the one ahead of it was. */
+    private static void undoOfAChain() {
+        for (int first = 0; first < 2; first++) {
+            TurretViews x = Check.of(StateTests.SUBURB);
+            for (int i = 0; i < 8 + first; i++) {
+                chainAct(x, i);
+            }
+            for (int i = 7; i >= 0; i--) {
+                Check.is("undo", x.undo(), i);
+                TurretViews y = Check.of(StateTests.SUBURB);
+                for (int j = 0; j < i + first; j++) {
+                    chainAct(y, j);
+                }
+                DayTests.alike("undone to " + (i + first), x, y);
+            }
+            Check.is("undo", x.undo(), -1);
+        }
     }
 
     private static void undoOfEach() {

@@ -7,6 +7,7 @@ public final class BookTests {
         tooMany();
         tooLong();
         days();
+        judgedFromNow();
         Check.end();
     }
 
@@ -147,6 +148,24 @@ public final class BookTests {
         Check.bookFault(x, Check.blanks(399) + "annannann lands;", 399, 1);
         Check.bookFault(x, "day 1;".repeat(40) + Check.blanks(159) + "day 1;", 399, 4);
         Check.bookFault(x, "day 1;".repeat(40) + Check.blanks(160) + "day 1;", 400, 1);
+    }
+
+    /** A book is judged from what is so, whatever was judged or read ahead of it. */
+    private static void judgedFromNow() {
+        TurretViews x = Check.of(StateTests.SUBURB);
+        x.wall(0);
+        x.days(7);
+        x.climb(1, 1);
+        Check.is("judged", Check.book(x, "unwall s;ann climbs s;bo lands;day 2;storm 3;", 0), -1);
+        told(x, 0, 5, 9, 2);
+        Check.is("judged again", Check.book(x, "unwall s;bo lands;day 1;", 0), -1);
+        told(x, 0, 3, 8, 2);
+        Check.is("a suburb with a FAULT", Check.suburb(x, "turret q slit sea 5;person z 9;person"), -38);
+        Check.is("judged behind it", Check.book(x, "bo lands;bo climbs r;", 0), -1);
+        told(x, 0, 2, 7, 2);
+        x.odds(0, 5, 5);
+        Check.is("judged behind odds", Check.book(x, "day 1;wall s;", 0), 1);
+        told(x, 41, 1, 8, 2);
     }
 
     private static void days() {

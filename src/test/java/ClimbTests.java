@@ -149,6 +149,10 @@ public final class ClimbTests {
         x.wall(2);
         Check.is("one", x.cover(), 1);
         Check.is("the other one", x.covering(), 8);
+        x = Check.of("turret a slit duty 5;turret b bow thrift 5;turret c slit love 5;turret d slit war 5;turret e slit music 5;"
+            + "turret f slit tea 5;turret g slit sea 5;");
+        Check.is("six", x.cover(), 6);
+        Check.is("without g", x.covering(), 63);
         Check.is("no turrets", new TurretViews().cover(), -1);
     }
 }

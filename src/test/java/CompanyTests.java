@@ -6,6 +6,7 @@ public final class CompanyTests {
         tea();
         teaOfThoseUp();
         latestStays();
+        partyAnew();
         when();
         card();
         Check.end();
@@ -118,6 +119,24 @@ public final class CompanyTests {
         Check.is("party anew", x.partyOf(0), -1);
     }
 
+    /** What a party of many was must not reach into a smaller one. */
+    private static void partyAnew() {
+        String many = "turret a slit sea 5;turret b slit sea 5;turret c slit sea 5;turret d slit sea 5;turret e slit sea 5;"
+            + "turret f slit sea 5;person p 9;person q 9;person r 9;person s 9;person t 9;person u 9;wants p sea;wants u sea;";
+        TurretViews x = Check.of(many);
+        Check.is("all", x.party(), 6);
+        Check.is("the last one", x.partyOf(5), 5);
+        Check.suburb(x, "turret a slit tea 5;person p 9;person q 9;wants p sea;wants q sea;");
+        Check.is("none", x.party(), 0);
+        Check.is("p", x.partyOf(0), 0);
+        for (int p = 1; p < 6; p++) {
+            Check.is("partyOf(" + p + ")", x.partyOf(p), -1);
+        }
+        Check.suburb(x, "");
+        Check.is("nobody", x.party(), 0);
+        Check.is("no p", x.partyOf(0), -1);
+    }
+
     private static void when() {
         TurretViews x = Check.of(StateTests.SUBURB + "turret v bow thrift 5 vane;");
         for (int view = 0; view < 8; view++) {
@@ -125,8 +144,13 @@ public final class CompanyTests {
             Check.is("when(4, " + view + ")", x.when(4, view), (view + 6) % 8);
             Check.is("when(1, " + view + ")", x.when(1, view), view == 7 ? 0 : -1);
         }
-        Check.is("when(0, 8)", x.when(0, 8), -1);
-        Check.is("when(0, -1)", x.when(0, -1), -1);
+        for (int t = 0; t < 5; t++) {
+            Check.is("when(.., 8)", x.when(t, 8), -1);
+            Check.is("when(.., 9)", x.when(t, 9), -1);
+            Check.is("when(.., 15)", x.when(t, 15), -1);
+            Check.is("when(.., -1)", x.when(t, -1), -1);
+            Check.is("when(.., -3)", x.when(t, -3), -1);
+        }
         Check.is("when(5, 0)", x.when(5, 0), -1);
         Check.is("when(-1, 0)", x.when(-1, 0), -1);
         for (int i = 0; i < 7; i++) {

@@ -67,6 +67,7 @@ public final class DayTests {
 
     private static void againstActs() {
         String[] suburbs = {StateTests.SUBURB, "person a 5;person b 5;thinks a sea;thinks b duty;", "turret t bow tea 60 vane;", "",
+            "turret t slit sea 9;person a 60;person b 60;wants a sea;",
             "turret t bow tea 60 vane;turret u slit duty 3;person a 60;person b 60;person c 60;person d 9;wants a tea;"};
         int[] seeds = {0, 1, -1, 12345, Integer.MAX_VALUE, Integer.MIN_VALUE, 987654321};
         for (String suburb : suburbs) {

@@ -116,5 +116,11 @@ public final class StateTests {
             Check.is("then now(" + what + ")", x.now(what), then[what]);
         }
         Check.is("now(-1)", x.now(-1), -1);
+        x = Check.of("turret t slit sea 5;person a 9;person b 9;person c 9;person d 9;person e 9;person f 9;thinks b tea;"
+            + "thinks e sea;wants c sea;wants f tea;");
+        x.climb(5, 0);
+        Check.is("who is up", x.now(1), 32);
+        Check.is("who is mild", x.now(2), 1 + 4 + 8);
+        Check.is("who is pleased", x.now(3), 1 + 2 + 8 + 16);
     }
 }

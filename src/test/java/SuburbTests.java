@@ -10,6 +10,7 @@ public final class SuburbTests {
         tooMany();
         tooLong();
         faults();
+        fresh();
         Check.end();
     }
 
@@ -110,6 +111,25 @@ public final class SuburbTests {
         Check.suburbFault("person p 5", 10, 1);
         Check.suburbFault("person p 5 \n ", 13, 1);
         Check.suburbFault("turret t slit sea 5 vane", 24, 1);
+    }
+
+    /** Nothing of what was judged or drawn ahead is so in a new one. */
+    private static void fresh() {
+        String text = "turret a slit sea 9 vane;turret b bow sea 9;person p 60;person q 60;thinks p tea;wants q sea;";
+        TurretViews x = Check.of(text);
+        Check.book(x, "p climbs a;p lands;p climbs a;wall b;day 5;q tells p tea;", 0);
+        Check.is("a new one", Check.suburb(x, "turret b slit sea 9;turret a slit sea 8;person q 60;person p 3;"), 4);
+        TurretViews y = Check.of("turret b slit sea 9;turret a slit sea 8;person q 60;person p 3;");
+        DayTests.alike("new behind a judged book", x, y);
+        for (int what = 0; what < 6; what++) {
+            Check.is("now(" + what + ")", x.now(what), what == 2 || what == 3 ? 3 : 0);
+        }
+        Check.is("no vane", x.turret(0, 3), 0);
+        Check.is("no climbs", x.person(0, 4), 0);
+        Check.is("down", x.person(0, 3), -1);
+        x.odds(0, 3, 7);
+        Check.suburb(x, text);
+        DayTests.alike("new behind odds", x, Check.of(text));
     }
 
     private static void numbers() {
