@@ -539,7 +539,7 @@ public final class TurretViews {
     }
 
     private static int opposite(int view) {
-        return allRound(view + HALF_ROUND);
+        return (view + HALF_ROUND) & (VIEWS - 1);
     }
 
     private static int having(int views, int view) {
@@ -587,31 +587,34 @@ public final class TurretViews {
     }
 
     /**
-     * Reads the tape TOKEN by TOKEN and keeps the first FAULT. Behind a FAULT nothing
-     * more is taken, so that whoever reads need look for one only at the end.
+     * Splits the tape into TOKENS and goes through them, keeping the first FAULT. Behind a
+     * FAULT nothing more is taken, so that whoever reads need look for one only at the end.
      */
     private static final class Reader {
-        private static final int AT_END = 0;
-        private static final int A_WORD = 1;
-        private static final int A_NUMBER = 2;
-        private static final int A_MARK = 3;
-        private static final int NO_TOKEN = 4;
+        /** Sorts of TOKENS; a WORD that is no NAME has its own number for a sort. */
+        private static final int A_NAME = WORD_COUNT;
+        private static final int A_NUMBER = 37;
+        private static final int A_MARK = 38;
+        private static final int NO_TOKEN = 39;
+        private static final int AT_END = 40;
 
-        final long[] words;
         final Tape text;
-        private int most;
+        final long[] words;
+        private final int[] starts;
+        private final int[] sorts;
+        private final long[] values;
+        private int many;
         private int at;
-        private int start;
-        private int kind;
-        private int word;
-        private long code;
-        private int value;
+        private boolean tooLong;
         int fault;
         int place;
 
         Reader() {
             text = new Tape(MOST_TAPE);
             words = new long[WORD_COUNT];
+            starts = new int[MOST_SUBURB + 1];
+            sorts = new int[MOST_SUBURB + 1];
+            values = new long[MOST_SUBURB + 1];
             learn(SUBURB_WORDS, W_TURRET);
             learn(BOOK_WORDS, W_CLIMBS);
             learn(SENTENCE_WORDS, W_OR);
@@ -632,49 +635,124 @@ public final class TurretViews {
             }
         }
 
-        void begin(int mostBytes) {
-            most = mostBytes;
+        /** TOKENS that begin ahead of the most bytes are split off, whole; then the end. */
+        void begin(int most) {
+            int ends = Math.min(text.length, most);
+            many = 0;
+            int split = 0;
+            for (int i = 0; i < ends; i++) {
+                if (i >= split) {
+                    split = splitAt(i);
+                }
+            }
+            addToken(ends, AT_END, 0);
+            tooLong = text.length > most;
             at = 0;
             fault = 0;
             place = 0;
-            next();
+        }
+
+        /** Splits off what begins here: where it ends. */
+        private int splitAt(int start) {
+            int sign = text.bytes[start];
+            if (isRunSign(sign)) {
+                return splitRun(start);
+            }
+            if (sign != ' ' && sign != '\n') {
+                addToken(start, isMarkSign(sign) ? A_MARK : NO_TOKEN, sign);
+            }
+            return start + 1;
+        }
+
+        private int splitRun(int start) {
+            int letters = 0;
+            long word = 0;
+            long number = 0;
+            int i = start;
+            for (; i < text.length && isRunSign(text.bytes[i]); i++) {
+                int sign = text.bytes[i];
+                letters += sign >= 'a' ? 1 : 0;
+                word = word * SIGNS_BASE + (sign - AHEAD_OF_A);
+                number = number * 10 + (sign - '0');
+            }
+            int length = i - start;
+            if (letters == length && length <= LONGEST_WORD) {
+                addToken(start, wordSort(word), word);
+            } else if (letters == 0 && length <= LONGEST_NUMBER) {
+                addToken(start, A_NUMBER, number);
+            } else {
+                addToken(start, NO_TOKEN, 0);
+            }
+            return i;
+        }
+
+        private void addToken(int start, int sort, long value) {
+            if (many < starts.length) {
+                starts[many] = start;
+                sorts[many] = sort;
+                values[many] = value;
+                many++;
+            }
+        }
+
+        private int wordSort(long word) {
+            for (int i = 0; i < WORD_COUNT; i++) {
+                if (words[i] == word) {
+                    return i;
+                }
+            }
+            return A_NAME;
+        }
+
+        private static boolean isRunSign(int sign) {
+            return sign >= 'a' && sign <= 'z' || sign >= '0' && sign <= '9';
+        }
+
+        private static boolean isMarkSign(int sign) {
+            return sign == ';' || sign == '<' || sign == '=' || sign == '>' || sign == '(' || sign == ')';
         }
 
         /** Says false, so that a reading that fails can answer with it. */
         boolean fail(int faultKind) {
             if (fault == 0) {
                 fault = faultKind;
-                place = start;
+                place = starts[at];
             }
             return false;
         }
 
+        void next() {
+            if (sorts[at] != AT_END) {
+                at++;
+            }
+        }
+
         boolean goesOn() {
-            return fault == 0 && kind != AT_END;
+            return fault == 0 && sorts[at] != AT_END;
         }
 
         /** The text is over, and was not too long. */
         boolean closes() {
-            if (fault == 0 && (kind != AT_END || text.length > most)) {
-                return fail(FAULT_TOKEN);
+            if (sorts[at] != AT_END || tooLong) {
+                fail(FAULT_TOKEN);
             }
             return fault == 0;
         }
 
         boolean isWord(int number) {
-            return fault == 0 && word == number;
+            return fault == 0 && sorts[at] == number;
         }
 
-        boolean isWordFrom(int first, int many) {
-            return fault == 0 && word >= first && word < first + many;
+        boolean isWordFrom(int first, int manyWords) {
+            return fault == 0 && sorts[at] >= first && sorts[at] < first + manyWords;
         }
 
         boolean isMark(char mark) {
-            return fault == 0 && kind == A_MARK && value == mark;
+            return fault == 0 && sorts[at] == A_MARK && values[at] == mark;
         }
 
         boolean isName() {
-            return fault == 0 && kind == A_WORD && word == NONE;
+            return fault == 0 && sorts[at] == A_NAME;
         }
 
         boolean takeWord(int number) {
@@ -697,157 +775,88 @@ public final class TurretViews {
             return takeMark(mark) || fail(FAULT_TOKEN);
         }
 
-        /** Which of many WORDS from the first on it is; NONE, with a FAULT, for another TOKEN. */
-        int needWordFrom(int first, int many) {
-            if (!isWordFrom(first, many)) {
+        /** Which of the WORDS from the first on it is; NONE, with a FAULT, for another TOKEN. */
+        int needWordFrom(int first, int manyWords) {
+            if (!isWordFrom(first, manyWords)) {
                 fail(FAULT_TOKEN);
                 return NONE;
             }
-            int which = word - first;
+            int which = sorts[at] - first;
             next();
             return which;
         }
 
         int needSign() {
-            int sign = value;
-            if (!takeMark('<') && !takeMark('=') && !takeMark('>')) {
+            int sign = (int) values[at];
+            if (isMark('<') || isMark('=') || isMark('>')) {
+                next();
+            } else {
                 fail(FAULT_TOKEN);
             }
             return sign;
         }
 
         int needNumber(int least, int greatest) {
-            if (fault != 0 || kind != A_NUMBER) {
+            if (fault != 0 || sorts[at] != A_NUMBER) {
                 fail(FAULT_TOKEN);
                 return NONE;
             }
-            if (value < least || value > greatest) {
+            int number = (int) values[at];
+            if (number < least || number > greatest) {
                 fail(FAULT_NUMBER);
                 return NONE;
             }
-            int number = value;
             next();
             return number;
         }
 
         long needNewName(Suburb told) {
+            long name = values[at];
             if (!isName()) {
                 fail(FAULT_TOKEN);
-            } else if (told.turretNamed(code) != NONE || told.personNamed(code) != NONE) {
+            } else if (told.turretNamed(name) != NONE || told.personNamed(name) != NONE) {
                 fail(FAULT_NAME);
-            }
-            long name = code;
-            if (fault == 0) {
+            } else {
                 next();
             }
             return name;
         }
 
         int needTurret(Suburb told) {
-            return goPast(seeTold(isName() ? told.turretNamed(code) : NONE));
-        }
-
-        int needPerson(Suburb told) {
-            return goPast(seePerson(told));
-        }
-
-        /** Which PERSON it is, without going on: a BOOK's LINE may be one too many at this WORD. */
-        int seePerson(Suburb told) {
-            return seeTold(isName() ? told.personNamed(code) : NONE);
-        }
-
-        /** A VIEW that is not among those told, nor OPPOSITE to one. */
-        int needNewView(int told) {
-            int view = isWordFrom(W_DUTY, VIEWS) ? word - W_DUTY : NONE;
-            if (view != NONE && (told & (1 << view | 1 << opposite(view))) != 0) {
-                fail(FAULT_NAME);
-                return NONE;
-            }
-            return needWordFrom(W_DUTY, VIEWS);
-        }
-
-        private int seeTold(int which) {
+            int which = isName() ? told.turretNamed(values[at]) : NONE;
             if (which == NONE) {
                 fail(isName() ? FAULT_NAME : FAULT_TOKEN);
+            } else {
+                next();
             }
             return which;
         }
 
-        private int goPast(int which) {
+        int needPerson(Suburb told) {
+            int which = seePerson(told);
             if (which != NONE) {
                 next();
             }
             return which;
         }
 
-        void next() {
-            int ends = Math.min(text.length, most);
-            while (at < ends && isBlank(text.bytes[at])) {
-                at++;
+        /** Which PERSON it is, without going on: a BOOK's LINE may be one too many at this WORD. */
+        int seePerson(Suburb told) {
+            int which = isName() ? told.personNamed(values[at]) : NONE;
+            if (which == NONE) {
+                fail(isName() ? FAULT_NAME : FAULT_TOKEN);
             }
-            word = NONE;
-            start = Math.min(at, ends);
-            if (at >= ends) {
-                kind = AT_END;
-                return;
-            }
-            int sign = text.bytes[at];
-            if (isLetter(sign) || isDigit(sign)) {
-                readRun();
-            } else {
-                value = sign;
-                kind = isMarkSign(sign) ? A_MARK : NO_TOKEN;
-                at++;
-            }
+            return which;
         }
 
-        /** A TOKEN that begins ahead of the most bytes is read whole: to the tape's end here. */
-        private void readRun() {
-            int letters = 0;
-            int digits = 0;
-            code = 0;
-            value = 0;
-            for (; at < text.length && (isLetter(text.bytes[at]) || isDigit(text.bytes[at])); at++) {
-                int sign = text.bytes[at];
-                if (isLetter(sign)) {
-                    letters++;
-                    code = code * SIGNS_BASE + (sign - AHEAD_OF_A);
-                } else {
-                    digits++;
-                    value = value * 10 + (sign - '0');
-                }
+        /** A VIEW that is not among those told, nor OPPOSITE to one. */
+        int needNewView(int told) {
+            int view = isWordFrom(W_DUTY, VIEWS) ? sorts[at] - W_DUTY : NONE;
+            if (view != NONE && (told & (1 << view | 1 << opposite(view))) != 0) {
+                fail(FAULT_NAME);
+                return NONE;
             }
-            if (digits == 0 && letters <= LONGEST_WORD) {
-                kind = A_WORD;
-                word = wordNumber();
-            } else {
-                kind = letters == 0 && digits <= LONGEST_NUMBER ? A_NUMBER : NO_TOKEN;
-            }
-        }
-
-        private int wordNumber() {
-            for (int i = 0; i < WORD_COUNT; i++) {
-                if (words[i] == code) {
-                    return i;
-                }
-            }
-            return NONE;
-        }
-
-        private static boolean isBlank(int sign) {
-            return sign == ' ' || sign == '\n';
-        }
-
-        private static boolean isLetter(int sign) {
-            return sign >= 'a' && sign <= 'z';
-        }
-
-        private static boolean isDigit(int sign) {
-            return sign >= '0' && sign <= '9';
-        }
-
-        private static boolean isMarkSign(int sign) {
-            return sign == ';' || sign == '<' || sign == '=' || sign == '>' || sign == '(' || sign == ')';
+            return needWordFrom(W_DUTY, VIEWS);
         }
     }
 
