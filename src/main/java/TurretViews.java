@@ -712,13 +712,11 @@ public final class TurretViews {
             return sign == ';' || sign == '<' || sign == '=' || sign == '>' || sign == '(' || sign == ')';
         }
 
-        /** Says false, so that a reading that fails can answer with it. */
-        boolean fail(int faultKind) {
+        void fail(int faultKind) {
             if (fault == 0) {
                 fault = faultKind;
                 place = starts[at];
             }
-            return false;
         }
 
         void next() {
@@ -771,8 +769,10 @@ public final class TurretViews {
             return is;
         }
 
-        boolean needMark(char mark) {
-            return takeMark(mark) || fail(FAULT_TOKEN);
+        void needMark(char mark) {
+            if (!takeMark(mark)) {
+                fail(FAULT_TOKEN);
+            }
         }
 
         /** Which of the WORDS from the first on it is; NONE, with a FAULT, for another TOKEN. */

@@ -176,5 +176,7 @@ public final class SentenceTests {
         Check.sentenceFault(x, Check.blanks(198) + "has tea", 200, 1);
         Check.sentenceFault(x, Check.blanks(196) + "on who", 199, 3);
         Check.sentenceFault(x, "up" + Check.blanks(400) + "up", 200, 1);
+        Check.sentenceFault(x, ")".repeat(940), 0, 1);
+        Check.sentenceFault(x, "(".repeat(940), 8, 4);
     }
 }

@@ -11,7 +11,50 @@ public final class StateTests {
         turret();
         looks();
         now();
+        full();
         Check.end();
+    }
+
+    private static final String FULL = "turret ta slit duty 10 vane;turret tb bow sea 10 vane;turret tc round tea 10 vane;"
+        + "turret td octagon dogs 10 vane;turret te slit love 10 vane;turret tf bow war 10 vane;turret tg slit music 10 vane;"
+        + "person pa 60;person pb 60;person pc 60;person pd 60;person pe 60;person pf 60;"
+        + "thinks pa duty;thinks pb duty;thinks pc duty;thinks pd tea;thinks pe tea;thinks pf tea;wants pf music;";
+
+    /** As many as there can be, and then fewer: no place too many is looked at. */
+    private static void full() {
+        TurretViews x = Check.of(FULL);
+        Check.is("the last one climbs the last one", x.climb(5, 6), 0);
+        Check.is("pe climbs", x.climb(4, 5), 0);
+        Check.is("friends of pa", x.person(0, 6), 2 + 4);
+        Check.is("friends of pf", x.person(5, 6), 8 + 16);
+        Check.is("pa can climb", x.person(0, 5), 31);
+        Check.is("climbs", x.now(5), 2);
+        Check.is("views", x.now(6), 3 + 1 + 4 + 2);
+        Check.is("pleased", x.now(3), 63);
+        Check.is("mild", x.now(2), 0);
+        Check.is("ask", x.ask(), 0);
+        Check.is("storm", x.storm(9), 0);
+        Check.is("the last one's height", x.turret(6, 2), 9);
+        Check.is("soonest", x.soonest(5), 0);
+        Check.is("party", x.party(), 6);
+        Check.is("cover", x.cover(), 1);
+        Check.is("tea", x.tea(), 2);
+        Check.is("days", x.days(1), 1);
+        Check.is("the last one's view", x.turret(6, 1), 7);
+        Check.is("drawn", x.drawn(60, 3), 60);
+        Check.is("odds", x.odds(0, 1, 1), 1);
+        Check.is("fewer", Check.suburb(x, "turret ta slit sea 5;person pa 9;thinks pa duty;wants pa sea;"), 4);
+        DayTests.alike("fewer behind many", x, Check.of("turret ta slit sea 5;person pa 9;thinks pa duty;wants pa sea;"));
+        Check.is("no climbs", x.now(5), 0);
+        Check.is("one view", x.now(6), 1);
+        Check.is("no friends", x.person(0, 6), 0);
+        Check.is("nobody is pleased", x.now(3), 0);
+        Check.is("no storm", x.storm(5), 1);
+        Check.is("by one climb", x.soonest(0), 1);
+        Check.is("one alone hears nobody", x.tea(), 1);
+        Check.is("he has duty", x.teaOf(0), 1);
+        Check.is("made", Check.made(x, 0, 2), 3);
+        Check.is("not covered", x.cover(), -1);
     }
 
     private static void person() {

@@ -196,6 +196,9 @@ public final class SuburbTests {
         Check.suburbFault(Check.blanks(890) + "person p 61;", 899, 2);
         Check.suburbFault(Check.blanks(891) + "person p 61;", 900, 1);
         Check.suburbFault(Check.blanks(890) + "person p 600000;", 899, 1);
+        // as many TOKENS as bytes
+        Check.suburbFault(";".repeat(940), 0, 1);
+        Check.suburbFault("(".repeat(900), 0, 1);
         // a FAULT ahead goes first
         Check.suburbFault("person p 61;" + Check.blanks(900), 9, 2);
         Check.suburbFault("person p 5" + Check.blanks(900), 900, 1);
