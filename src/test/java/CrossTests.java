@@ -6,8 +6,9 @@ public final class CrossTests {
     private static final String[] VIEWS = {"duty", "sea", "thrift", "dogs", "love", "war", "music", "tea"};
 
     public static void main(String[] args) {
-        for (int seed = 0; seed < 300; seed++) {
-            Random random = new Random(seed);
+        // one row of draws for all: the first draws of seeds side by side are nearly alike
+        Random random = new Random(1);
+        for (int run = 0; run < 400; run++) {
             TurretViews x = Check.of(suburb(random));
             for (int i = 0; i < 12; i++) {
                 act(x, random);

@@ -19,7 +19,7 @@ public final class SafetyTests {
     }
 
     private static long run(int seed) {
-        Random random = new Random(seed);
+        Random random = new Random(seed * 1000003L);
         TurretViews x = new TurretViews();
         long sum = 0;
         for (int call = 0; call < 512; call++) {
