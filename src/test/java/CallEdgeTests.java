@@ -48,6 +48,8 @@ public final class CallEdgeTests {
         p08NoneSuch();
         p09AnotherWhat();
         p09OfNobody();
+        p09WhoIsMildAndPleased();
+        p09ClimbsAndViewsOfAll();
     }
 
     private static void acts() {
@@ -64,6 +66,8 @@ public final class CallEdgeTests {
         p17UndoOfWhatWasNotDone();
         p17UndoOfDaysOfNought();
         p17UndoOfABook();
+        p17UndoOfEachAct();
+        p17UndoInANewSuburb();
         p17UndoBehindAFault();
     }
 
@@ -397,6 +401,32 @@ public final class CallEdgeTests {
         }
     }
 
+    /** "2 who is mild, 3 who is pleased": the first one, the last one, all and none of them */
+    private static void p09WhoIsMildAndPleased() {
+        TurretViews x = Check.of("person a 5;person b 5;person c 5;person d 5;person e 5;person f 5;");
+        Check.is("all are mild", x.now(2), 63);
+        Check.is("all are pleased", x.now(3), 63);
+        x = Check.of("person a 5;person b 5;person c 5;thinks b sea;wants b sea;wants a sea;wants c sea;");
+        Check.is("the first and the last are mild", x.now(2), 5);
+        Check.is("b is pleased", x.now(3), 2);
+        x = Check.of("person a 5;person b 5;thinks a sea;thinks b sea;wants a war;wants b tea;");
+        Check.is("none is mild", x.now(2), 0);
+        Check.is("none is pleased", x.now(3), 0);
+    }
+
+    /** "5 climbs so far .. 6 how many have VIEWS in all (each PERSON each VIEW)" */
+    private static void p09ClimbsAndViewsOfAll() {
+        TurretViews x = Check.of("turret t slit sea 5;turret u bow tea 5;person a 5;person b 5;person c 5;");
+        x.climb(0, 0);
+        x.climb(2, 1);
+        x.land(0);
+        x.climb(0, 0);
+        Check.is("climbs, alike ones too", x.now(5), 3);
+        Check.is("views", x.now(6), 1 + 3);
+        x.undo();
+        Check.is("undone", x.now(5), 2);
+    }
+
     // ---- 10 to 17
 
     private static void p10ClimbNoSuchOnes() {
@@ -558,6 +588,56 @@ public final class CallEdgeTests {
         Check.is("the day", x.now(0), 1);
         Check.is("and the other one", x.undo(), 0);
         same("as it was", x, small());
+    }
+
+    private static void act(TurretViews x, int which) {
+        switch (which) {
+            case 0: Check.is("climb", x.climb(1, 1), 0); break;
+            case 1: Check.is("land", x.land(0), 0); break;
+            case 2: Check.is("tell", x.tell(1, 2, 0), 0); break;
+            case 3: Check.is("storm", x.storm(7), 0); break;
+            case 4: Check.is("wall", x.wall(1), 0); break;
+            case 5: Check.is("unwall", x.unwall(2), 0); break;
+            case 6: Check.is("days", x.days(3), 3); break;
+            case 7: Check.is("drawn", x.drawn(30, 2), 30); break;
+            default: Check.is("book", Check.book(x, "p lands;storm 8;day 2;q tells r duty;", 1), -1); break;
+        }
+    }
+
+    private static TurretViews readyForActs() {
+        TurretViews x = Check.of(SMALL + "turret v slit war 5;");
+        x.climb(0, 0);
+        x.wall(2);
+        return x;
+    }
+
+    /** "The latest of climb(), land(), tell(), storm(), wall(), unwall() .., days() .., drawn() .., a BOOK .. is undone" */
+    private static void p17UndoOfEachAct() {
+        for (int first = 0; first < 9; first++) {
+            TurretViews x = readyForActs();
+            act(x, first);
+            Check.is("undo of act " + first, x.undo(), 2);
+            same("undone act " + first, x, readyForActs());
+            // a day ahead of it, so that what is kept is not what was kept for another act
+            TurretViews y = readyForActs();
+            y.days(1);
+            act(y, first);
+            y.undo();
+            TurretViews z = readyForActs();
+            z.days(1);
+            same("undone act " + first + " on another day", y, z);
+        }
+    }
+
+    /** A new SUBURB begins with nothing done. */
+    private static void p17UndoInANewSuburb() {
+        TurretViews x = small();
+        x.days(1);
+        Check.suburb(x, SMALL);
+        Check.is("nothing was done", x.undo(), -1);
+        x.days(2);
+        Check.is("one was", x.undo(), 0);
+        same("as told", x, small());
     }
 
     private static void p17UndoBehindAFault() {
@@ -747,6 +827,7 @@ public final class CallEdgeTests {
         Check.is("q", x.partyOf(1), 1);
         Check.is("r has none", x.partyOf(2), -1);
         Check.is("partyOf(3)", x.partyOf(3), -1);
+        Check.is("partyOf(6)", x.partyOf(6), -1);
         for (int no : NO_SUCH) {
             Check.is("partyOf(" + no + ")", x.partyOf(no), -1);
         }
@@ -772,6 +853,7 @@ public final class CallEdgeTests {
         x.tea();
         Check.is("nothing is no NONE", x.teaOf(1), 0);
         Check.is("teaOf(2)", x.teaOf(2), -1);
+        Check.is("teaOf(6)", x.teaOf(6), -1);
         for (int no : NO_SUCH) {
             Check.is("teaOf(" + no + ")", x.teaOf(no), -1);
         }

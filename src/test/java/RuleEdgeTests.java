@@ -76,6 +76,7 @@ public final class RuleEdgeTests {
         teaOfAsMany();
         teaWithoutThoseUp();
         teaPersonByPerson();
+        teaForEachOfTheFirstFour();
         teaChangesNothing();
         friendsNotHimself();
         friendsOfTheMild();
@@ -89,6 +90,7 @@ public final class RuleEdgeTests {
         drawWrapsAround();
         drawnStorms();
         drawnWithoutTurrets();
+        drawnLandings();
         drawnActsThatCanNotBe();
         drawnToTheEnd();
     }
@@ -558,6 +560,16 @@ public final class RuleEdgeTests {
         Check.is("q hears it from p", x.teaOf(1), 32);
     }
 
+    /** "for each of the first four VIEWS", and the OPPOSITE ones by them */
+    private static void teaForEachOfTheFirstFour() {
+        for (int v = 0; v < 8; v++) {
+            TurretViews x = Check.of("person p 5;person q 5;person r 5;thinks p " + VIEWS[v] + ";thinks q " + VIEWS[v] + ";thinks r "
+                + VIEWS[(v + 4) % 8] + ";");
+            Check.is("two ROUNDS", x.tea(), 2);
+            Check.is("r takes " + VIEWS[v], x.teaOf(2), 1 << v);
+        }
+    }
+
     /** "None changes anything in the SUBURB." */
     private static void teaChangesNothing() {
         TurretViews x = Check.of(ACTS);
@@ -684,6 +696,25 @@ public final class RuleEdgeTests {
             Check.is("q", x.person(1, 0), has[1]);
         }
         Check.yes("some was told", told > 0);
+    }
+
+    /** "0 or 1: .. he climbs it; 2: he lands" of one who is up */
+    private static void drawnLandings() {
+        int landed = 0;
+        for (int i = 1; i < 100; i++) {
+            int first = i * 123456789;
+            seed = first;
+            TurretViews x = Check.of("turret t slit sea 1;person p 60;");
+            x.climb(0, 0);
+            x.drawn(1, first);
+            if (draw(12) == 0) {
+                draw(60);
+            }
+            boolean lands = draw(4) == 2;
+            Check.is("up or down", x.person(0, 3), lands ? -1 : 0);
+            landed += lands ? 1 : 0;
+        }
+        Check.yes("some landed, some not", landed > 0 && landed < 99);
     }
 
     /** "(each, if it can be)": what can't be is drawn all the same */

@@ -451,6 +451,7 @@ public final class TextEdgeTests {
         }
         Check.sentenceFault(x, "nerve<>5", 6, 1);
         Check.sentenceFault(x, "nerve(5)", 5, 1);
+        Check.sentenceFault(x, "nerve 5", 6, 1);
     }
 
     /** A NUMBER of a SENTENCE has no bounds but its digits. */
